@@ -151,9 +151,8 @@ public final class TicketTag {
         if (refusal != NO_REASON) {
             return REFUSED;
         }
-        boolean written = writeValue(
-                centsOf(value) + cents, memory.at(value, 2), memory.at(value, 3));
-        return written ? TOPPED_UP : TORN;
+        draftValue(centsOf(value) + cents, memory.at(value, 2), memory.at(value, 3));
+        return memory.writeTwin(VALUES) ? TOPPED_UP : TORN;
     }
 
     public int reason() {
@@ -298,7 +297,8 @@ public final class TicketTag {
         memory.write(PRODUCT, 2, p2);
         memory.write(PRODUCT, 3, p3);
         if (kind == PURSE) {
-            writeValue(p2, 0, 0);
+            draftValue(p2, 0, 0);
+            memory.writeTwin(VALUES);
         }
     }
 
@@ -375,7 +375,7 @@ public final class TicketTag {
         int expects = kindOfTag() == CARNET ? bitsOn() : counterOf(latestValue()) % 256;
         memory.draft(memory.at(last, 1), memory.at(last, 2) + 4096,
                 place, manner(direction, FREE_RIDE), after + 256 * expects, 0);
-        return memory.writeTwin(TRANSFERS) && writeNewestJourney() ? FREE_RIDE : TORN;
+        return memory.writeTwin(TRANSFERS) && writeJourneyOf(newestRide()) ? FREE_RIDE : TORN;
     }
 
     private int rideOnPass(int zone, int place, int direction) {
@@ -384,7 +384,7 @@ public final class TicketTag {
             return refuse(why);
         }
         draftNewTransfer(place, manner(direction, PASS_RIDE), 0, 0);
-        return memory.writeTwin(TRANSFERS) && writeNewestJourney() ? PASS_RIDE : TORN;
+        return memory.writeTwin(TRANSFERS) && writeJourneyOf(newestRide()) ? PASS_RIDE : TORN;
     }
 
     private int rideOnCarnet(int place, int direction) {
@@ -393,7 +393,8 @@ public final class TicketTag {
             return refuse(NOT_PAID);
         }
         draftNewTransfer(place, manner(direction, PAID_RIDE), bits + 1, 0);
-        boolean written = memory.writeTwin(TRANSFERS) && writeNextBit() && writeNewestJourney();
+        boolean written = memory.writeTwin(TRANSFERS) && writeNextBit()
+                && writeJourneyOf(newestRide());
         return written ? PAID_RIDE : TORN;
     }
 
@@ -408,8 +409,11 @@ public final class TicketTag {
         int charged = Math.min(TOP_WORD, chargedOn(value, day) + charge);
         int expects = (counterOf(value) + 1) % 256;
         draftNewTransfer(place, manner(direction, PAID_RIDE), expects, charge);
-        boolean written = memory.writeTwin(TRANSFERS) && writeValue(left, day, charged)
-                && writeNewestJourney();
+        if (!memory.writeTwin(TRANSFERS)) {
+            return TORN;
+        }
+        draftValue(left, day, charged);
+        boolean written = memory.writeTwin(VALUES) && writeJourneyOf(newestRide());
         return written ? PAID_RIDE : TORN;
     }
 
@@ -449,13 +453,13 @@ public final class TicketTag {
         return true;
     }
 
-    private boolean writeValue(int cents, int day, int charged) {
+    private void draftValue(int cents, int day, int charged) {
         memory.draft(cents, day, charged, 0, 0, 0);
-        return memory.writeTwin(VALUES);
     }
 
-    private boolean writeNewestJourney() {
-        return writeJourneyOf(memory.latestOf(TRANSFERS));
+    /** The ride whose transfer record was just written: no other counter is ahead of its own. */
+    private int newestRide() {
+        return memory.latestOf(TRANSFERS);
     }
 
     private boolean writeJourneyOf(int ride) {
@@ -499,16 +503,12 @@ public final class TicketTag {
         if (codeOf(ride) != PAID_RIDE) {
             return false;
         }
+        int kind = kindOfTag();
         int expects = memory.at(ride, 5) / 256;
-        switch (kindOfTag()) {
-            case CARNET: return expects > bitsOn();
-            case PURSE: return isNextValue(expects);
-            default: return false;
+        if (kind == CARNET) {
+            return expects > bitsOn();
         }
-    }
-
-    private boolean isNextValue(int expects) {
-        int value = latestValue();
+        int value = kind == PURSE ? memory.latestOf(VALUES) : NO_RECORD;
         return value != NO_RECORD && expects == (counterOf(value) + 1) % 256;
     }
 
@@ -534,7 +534,7 @@ public final class TicketTag {
     }
 
     private int beganAt(int ride) {
-        return memory.at(ride, 1) * DAY_MINUTES + beganMinuteOf(ride);
+        return memory.at(ride, 1) * DAY_MINUTES + memory.at(ride, 2) % 4096;
     }
 
     private int rodeAt(int ride) {
@@ -583,7 +583,7 @@ public final class TicketTag {
 
     /**
      * The words of the tag. Every word is written by write(), so that a tear can come between any
-     * two of them; what writes answers false when it was torn, and nothing may be written then.
+     * two of them; what writes answers false when it was torn, and its caller writes no more.
      */
     private static final class Memory {
         private static final int BLOCKS = 64;
@@ -593,7 +593,7 @@ public final class TicketTag {
         private static final int TOP_LEAD = 32767;
 
         private final int[] words = new int[BLOCKS * BLOCK_WORDS];
-        private final int[] draft = new int[SUM_WORD + 1];
+        private final int[] draft = new int[SUM_WORD];
         private int written = 0;
         private int tears = 0;
         private boolean near = false;
@@ -719,15 +719,12 @@ public final class TicketTag {
             draft[0] = firstWord;
             int sum = 0;
             for (int w = 0; w < SUM_WORD; w++) {
-                sum = addToSum(sum, draft[w]);
-            }
-            draft[SUM_WORD] = TOP_WORD - sum;
-            for (int w = 0; w <= SUM_WORD; w++) {
                 if (!write(record, w, draft[w])) {
                     return false;
                 }
+                sum = addToSum(sum, draft[w]);
             }
-            return true;
+            return write(record, SUM_WORD, TOP_WORD - sum);
         }
     }
 }

@@ -439,8 +439,8 @@ public final class ModelTest {
             model.told = false;
             same("away()", tag.away() ? 1 : 0, 1);
         } else if (what < 40) {
-            int cents = random.nextInt(8) == 0 ? 1 + random.nextInt(65535) : 1 + random.nextInt(900);
-            act("topUp", cents, 0, 0);
+            int top = random.nextInt(8) == 0 ? 65535 : 900;
+            act("topUp", 1 + random.nextInt(top), 0, 0);
         } else {
             act("validate", random.nextInt(3), random.nextInt(3), random.nextInt(2));
         }
@@ -525,8 +525,8 @@ public final class ModelTest {
         int t = Math.min(9999 * 1440, time + random.nextInt(4) * 60);
         compare("inspect", tag.inspect(t / 1440, t % 1440, 1),
                 model.inspect(t / 1440, t % 1440, 1));
-        compare("present in a dialogue", model.dialogue ? call(() -> tag.present(0)) : -1002, -1002);
-        compare("validate away", model.dialogue ? -1002 : call(() -> tag.validate(0, 0, 0)), -1002);
+        compare("the other state's call", model.dialogue
+                ? call(() -> tag.present(0)) : call(() -> tag.validate(0, 0, 0)), -1002);
         compare("wrong line", call(() -> tag.validate(256, 0, 0)), -1001);
         compare("wrong word", call(() -> tag.word(64, 0)), -1003);
     }

@@ -46,7 +46,9 @@ public final class PromiseTest {
         count();
         rightByChance();
         counterGoesRound();
+        countersFarApart();
         voidNoMore();
+        expectsModulo256();
         voidByTopUps();
         System.out.println(wrong == 0 ? "all promises hold" : wrong + " answers are wrong");
         if (wrong != 0) {
@@ -381,6 +383,8 @@ public final class PromiseTest {
         due("another line", x.validate(8, 1, 1), 1);
         due("open no more", x.validate(9, 1, 1), 1);
         due("lastRide(2)", x.lastRide(2), 2);
+        due("not even where the open one was", x.validate(9, 1, 1), 0);
+        due("rides()", x.rides(), 0);
         x = openCarnet(rode + 5, 1);
         due("another line, paid", x.validate(8, 1, 2), 0);
         due("rides()", x.rides(), 0);
@@ -790,6 +794,7 @@ public final class PromiseTest {
         due("journey(0, 9)", x.journey(0, 9), -1);
         due("journey(-1, 0)", x.journey(-1, 0), -1);
         due("journey(16, 0)", x.journey(16, 0), -1);
+        due("journey(65536, 0)", x.journey(65536, 0), -1);
         due("journey", x.journey(Integer.MIN_VALUE, Integer.MAX_VALUE), -1);
         due("no ride", issued(1, 1, 0, 0).journey(0, 0), -1);
     }
@@ -951,6 +956,28 @@ public final class PromiseTest {
         due("journey(2, 1)", x.journey(2, 1), 0);
     }
 
+    /**
+     * The counters are 1 and some other one: two tears, of a ride's place and of the next one's
+     * counter, can put any counter into a record that is right.
+     */
+    private static void countersFarApart() {
+        promise = "counters far apart";
+        int[] counters = {1, 2, 32767, 32768, 32769, 32770, 65534, 65535};
+        boolean[] ahead = {false, true, true, true, false, false, false, false};
+        for (int i = 0; i < counters.length; i++) {
+            TicketTag x = atGate(0, 1, 9, 0, 0);
+            due("validate(1, 2, 3)", x.validate(1, 2, 3), 0);
+            x.tearAfter(3, 65535 - counters[i]);
+            due("torn", x.validate(1, 2, 4), 4);
+            x.present(0);
+            x.tearAfter(0, counters[i]);
+            due("torn", x.validate(1, 2, 4), 4);
+            dueRecord(x, 43, counters[i], 0, 0, 65535 - counters[i]);
+            due("lastRide(3) by " + counters[i], x.lastRide(3), ahead[i] ? 0 : 3);
+            due("lastRide(6)", x.lastRide(6), ahead[i] ? counters[i] : 1);
+        }
+    }
+
     /** What is torn while a void ride is taken back can be a ride with another code. */
     private static void voidNoMore() {
         promise = "void no more";
@@ -973,6 +1000,25 @@ public final class PromiseTest {
         due("its code", x.validate(0, 0, 0), 2);
         due("journey(0, 6)", x.journey(0, 6), 2);
         due("journey(0, 4)", x.journey(0, 4), 12);
+    }
+
+    private static void expectsModulo256() {
+        promise = "expects modulo 256";
+        for (int topUps = 252; topUps <= 257; topUps++) {
+            TicketTag x = atGate(0, 3, 0, 1000, 0);
+            for (int i = 0; i < topUps; i++) {
+                x.topUp(1);
+            }
+            int counter = 1 + topUps;
+            due("paid", x.validate(1, 0, 0), 0);
+            dueRecord(x, 41, 1, 0, 0, 1, 0, 256 * ((counter + 1) % 256), 185);
+            due("lastRide(6)", x.lastRide(6), 1);
+            due("free", x.validate(1, 0, 0), 1);
+            dueRecord(x, 43, 2, 0, 4096, 1, 16, 256 * ((counter + 1) % 256), 0);
+            x.tearAfter(8, 0);
+            due("not paid", x.validate(1, 0, 1), 4);
+            due("lastRide(6)", x.lastRide(6), 2);
+        }
     }
 
     /** The value's counter is expected modulo 256: so many top-ups make a paid ride void. */
