@@ -666,10 +666,12 @@ public final class BoundaryTest {
             }
         }
         expecting();
-        TicketTag onPass = pass();
         sentence("VOID: on carnets and purses alone");
-        forgeRide(onPass, 41, summed(9, 0, 0, 7, 0, 65280));
-        due("lastRide(6)", onPass.lastRide(6), 9);
+        for (int expects : new int[] {0, 1, 2, 3, 4, 255}) {
+            TicketTag onPass = pass();
+            forgeRide(onPass, 41, summed(9, 0, 0, 7, 0, 256 * expects));
+            due("lastRide(6)", onPass.lastRide(6), 9);
+        }
         otherRide();
     }
 
